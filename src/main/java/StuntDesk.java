@@ -148,7 +148,15 @@ public final class StuntDesk {
     public int play() throws IllegalArgumentException {
         requireArgument(text.isComplete());
         saved.keep(now);
-        int done = playParts();
+        int done = 0;
+        boolean possible = true;
+        int length = text.length;
+        for (int i = 0; i < length && possible; i++) {
+            if (text.isPartStart(i)) {
+                possible = playPart(i);
+                done += possible ? 1 : 0;
+            }
+        }
         text.makeEmpty();
         return done;
     }
@@ -314,19 +322,6 @@ public final class StuntDesk {
             case 9: return now.scenesSomebodyCouldShoot();
             default: return saved.kept;
         }
-    }
-
-    private int playParts() {
-        int done = 0;
-        for (int i = 0; i < text.length; i++) {
-            if (text.isPartStart(i)) {
-                if (!playPart(i)) {
-                    return done;
-                }
-                done++;
-            }
-        }
-        return done;
     }
 
     private boolean playPart(int start) {
@@ -568,7 +563,7 @@ public final class StuntDesk {
             if (scenes.isShot(scene)) {
                 return SCENE_IS_SHOT;
             }
-            if (!mayStandFor(person, scenes.seenIn(scene))) {
+            if (!lookAlike(person, scenes.seenIn(scene))) {
                 return NOT_ALIKE;
             }
             if (stepOn(someDay) < risk) {
@@ -577,25 +572,18 @@ public final class StuntDesk {
             if (barsKind(injuries.partsOn(someDay, person), kind)) {
                 return BARRED;
             }
-            if (hasDayOff(someDay, person)) {
+            int shotOn = scenes.latestShotBy(person);
+            if (shotOn != NONE && someDay <= shotOn + 1) {
                 return DAY_OFF;
             }
             int counting = rehearsals.countingOn(someDay, person, kind, risk);
             return counting < rehearsalsNeeded(kind, risk) ? NOT_REHEARSED : CLEARED;
         }
 
-        boolean mayStandFor(int person, int seen) {
-            return person == seen || sizeGap(person, seen) <= ALIKE_GAP;
-        }
-
-        int sizeGap(int one, int other) {
+        /** Everybody looks like himself, so this holds for the one who is seen too. */
+        boolean lookAlike(int one, int other) {
             int gap = at(sizes, one) - at(sizes, other);
-            return gap < 0 ? -gap : gap;
-        }
-
-        boolean hasDayOff(int someDay, int person) {
-            int shotOn = scenes.latestShotBy(person);
-            return shotOn != NONE && someDay <= shotOn + 1;
+            return gap >= -ALIKE_GAP && gap <= ALIKE_GAP;
         }
 
         int firstClearedDay(int scene, int person) {
@@ -633,7 +621,7 @@ public final class StuntDesk {
         }
 
         boolean comesIntoQuestion(int scene, int person) {
-            return mayStandFor(person, scenes.seenIn(scene)) && canRehearse(person, scenes.kindOf(scene));
+            return lookAlike(person, scenes.seenIn(scene)) && canRehearse(person, scenes.kindOf(scene));
         }
 
         boolean isBetter(int scene, int person, int than) {
@@ -646,6 +634,11 @@ public final class StuntDesk {
                 return person == seen;
             }
             return sizeGap(person, seen) < sizeGap(than, seen);
+        }
+
+        int sizeGap(int one, int other) {
+            int gap = at(sizes, one) - at(sizes, other);
+            return gap < 0 ? -gap : gap;
         }
 
         int clearedToday(int scene) {
@@ -723,21 +716,17 @@ public final class StuntDesk {
 
         void keep(int person, int kind, int risk, int day) {
             if (kept >= KEPT_REHEARSALS) {
-                dropOldest();
+                dropFirst(people);
+                dropFirst(kinds);
+                dropFirst(risks);
+                dropFirst(days);
+                kept--;
             }
             put(people, kept, person);
             put(kinds, kept, kind);
             put(risks, kept, risk);
             put(days, kept, day);
             kept++;
-        }
-
-        void dropOldest() {
-            dropFirst(people);
-            dropFirst(kinds);
-            dropFirst(risks);
-            dropFirst(days);
-            kept--;
         }
 
         /** How many count for something of that risk, which asks for a risk of at least one less. */
@@ -773,7 +762,10 @@ public final class StuntDesk {
 
         void keep(int person, int part, int lastDay) {
             if (kept >= KEPT_INJURIES) {
-                dropOldest();
+                dropFirst(people);
+                dropFirst(parts);
+                dropFirst(lastDays);
+                kept--;
             }
             put(people, kept, person);
             put(parts, kept, part);
@@ -781,21 +773,10 @@ public final class StuntDesk {
             kept++;
         }
 
-        void dropOldest() {
-            dropFirst(people);
-            dropFirst(parts);
-            dropFirst(lastDays);
-            kept--;
-        }
-
-        boolean isInForce(int i, int someDay, int person) {
-            return at(people, i) == person && someDay <= at(lastDays, i);
-        }
-
         int partsOn(int someDay, int person) {
             int mask = 0;
             for (int i = 0; i < kept; i++) {
-                if (isInForce(i, someDay, person)) {
+                if (at(people, i) == person && someDay <= at(lastDays, i)) {
                     mask |= at(parts, i);
                 }
             }
@@ -805,8 +786,9 @@ public final class StuntDesk {
         int lastDayFor(int someDay, int person) {
             int last = NONE;
             for (int i = 0; i < kept; i++) {
-                if (isInForce(i, someDay, person) && at(lastDays, i) > last) {
-                    last = at(lastDays, i);
+                int lastDay = at(lastDays, i);
+                if (at(people, i) == person && someDay <= lastDay && lastDay > last) {
+                    last = lastDay;
                 }
             }
             return last;
@@ -872,7 +854,7 @@ public final class StuntDesk {
         }
 
         boolean isShot(int scene) {
-            return dayOfShot(scene) != NONE;
+            return at(shotDays, scene) != NONE;
         }
 
         boolean isByDouble(int scene) {
