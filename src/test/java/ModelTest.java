@@ -12,7 +12,8 @@ import java.util.stream.IntStream;
  */
 public final class ModelTest {
     private static final int RUNS = 400;
-    private static final int CALLS = 512;
+    // And the digest in the end: nothing is promised of an object behind its 512th call.
+    private static final int CALLS = 511;
     private static final long THROWS_INDEX = Long.MIN_VALUE + 1;
     private static final long THROWS_ARGUMENT = Long.MIN_VALUE + 2;
     private static final long THROWS_STATE = Long.MIN_VALUE + 3;

@@ -2,27 +2,18 @@ import java.lang.reflect.Constructor;
 import java.lang.reflect.Field;
 import java.lang.reflect.Method;
 import java.lang.reflect.Modifier;
+import java.util.ArrayList;
 import java.util.Arrays;
+import java.util.List;
 import java.util.TreeSet;
 
 /** At least one test for each promise of DOC.md: ordinary inputs, edges, wrong inputs. */
-public final class PromisesTest {
-    private static final String INDEX = "IndexOutOfBoundsException";
-    private static final String ARGUMENT = "IllegalArgumentException";
-    private static final String STATE = "IllegalStateException";
-    private static final int NONE = StuntDesk.NONE;
+public final class PromisesTest extends Checks {
     private static final int[] WRONG_PEOPLE = {-1, 8, Integer.MIN_VALUE, Integer.MAX_VALUE};
     private static final int[] WRONG_KINDS = {-1, 6, Integer.MIN_VALUE, Integer.MAX_VALUE};
     private static final int[] WRONG_RISKS = {0, 6, -1, Integer.MIN_VALUE, Integer.MAX_VALUE};
     private static final int[] WRONG_PARTS = {0, -1, 3, 5, 33, 63, 64, Integer.MIN_VALUE, Integer.MAX_VALUE};
     private static final int[] WRONG_DAYS = {0, -1, 61, Integer.MIN_VALUE, Integer.MAX_VALUE};
-    private static final int[] PARTS = {1, 2, 4, 8, 16, 32};
-
-    private static int wrong = 0;
-
-    private interface Call {
-        long answer();
-    }
 
     public static void main(String[] args) {
         face();
@@ -65,28 +56,6 @@ public final class PromisesTest {
 
     // ---- helpers
 
-    private static void due(String what, long got, long want) {
-        if (got != want) {
-            wrong++;
-            System.out.println(what + ": got " + got + ", due is " + want);
-        }
-    }
-
-    private static void due(String what, String got, String want) {
-        if (!got.equals(want)) {
-            wrong++;
-            System.out.println(what + ": got " + got + ", due is " + want);
-        }
-    }
-
-    private static String thrownBy(Call call) {
-        try {
-            return "the answer " + call.answer();
-        } catch (RuntimeException e) {
-            return e.getClass().getSimpleName();
-        }
-    }
-
     /** The call throws just this exception, and changes nothing. */
     private static void refuses(StuntDesk desk, String what, String exception, Call call) {
         long before = desk.digest();
@@ -94,31 +63,10 @@ public final class PromisesTest {
         due(what + " changes nothing", desk.digest(), before);
     }
 
-    private static void type(StuntDesk desk, String text) {
-        for (int i = 0; i < text.length(); i++) {
-            desk.append(text.charAt(i));
-        }
-    }
-
     private static int errorOf(String text) {
         StuntDesk desk = new StuntDesk();
         type(desk, text);
         return desk.firstError();
-    }
-
-    private static void rehearse(StuntDesk desk, int times, int person, int kind, int risk) {
-        for (int i = 0; i < times; i++) {
-            due("rehearsal counts", desk.rehearse(person, kind, risk), 1);
-        }
-    }
-
-    private static void pass(StuntDesk desk, int days) {
-        int left = days;
-        while (left > 0) {
-            int step = Math.min(left, 99);
-            desk.pass(step);
-            left -= step;
-        }
     }
 
     /** A desk with a fight of risk 1 for the person 0, insured for the day 0 to 59. */
@@ -1041,62 +989,34 @@ public final class PromisesTest {
     }
 
     private static void promise26Digest() {
-        StuntDesk desk = new StuntDesk();
-        due("26: a new one", desk.digest(), digestByLooks(desk, ""));
-        type(desk, "+1x");
-        due("26: the buffer", desk.digest(), digestByLooks(desk, "+1x"));
-        desk.insure(1, 60);
+        List<DeskCall> calls = new ArrayList<>();
+        calls.add(d -> type(d, "+1x").firstError());
+        calls.add(d -> d.insure(1, 60));
         for (int i = 0; i < 10; i++) {
-            desk.scene(i % 2 == 0 ? 0 : 4, 1, i % 8);
-            due("26: with scenes", desk.digest(), digestByLooks(desk, "+1x"));
+            int scene = i;
+            calls.add(d -> d.scene(scene % 2 == 0 ? 0 : 4, 1, scene % 8));
         }
         for (int i = 0; i < 8; i++) {
-            desk.rehearse(i, i % 2 == 0 ? 0 : 4, 1);
-            due("26: rehearsed", desk.digest(), digestByLooks(desk, "+1x"));
-            desk.shoot(i, i);
-            due("26: shot", desk.digest(), digestByLooks(desk, "+1x"));
+            int person = i;
+            calls.add(d -> d.rehearse(person, person % 2 == 0 ? 0 : 4, 1));
+            calls.add(d -> d.shoot(person, person));
         }
-        desk.hurt(3, 32, 4);
-        due("26: hurt", desk.digest(), digestByLooks(desk, "+1x"));
-        desk.pass(2);
-        desk.rehearse(0, 0, 1);
-        desk.shoot(8, 0);
-        desk.shoot(9, 1);
-        due("26: all are shot", desk.digest(), digestByLooks(desk, "+1x"));
-        due("26: twice the same", desk.digest(), desk.digest());
+        calls.add(d -> d.hurt(3, 32, 4));
+        calls.add(d -> d.pass(2));
+        calls.add(d -> d.rehearse(0, 0, 1));
+        calls.add(d -> d.shoot(8, 0));
+        calls.add(d -> d.shoot(9, 1));
+        for (int done = 0; done <= calls.size(); done++) {
+            StuntDesk desk = deskAfter(calls.subList(0, done));
+            long digest = digestByLooks(deskAfter(calls.subList(0, done)), done == 0 ? "" : "+1x");
+            due("26: the digest behind " + done + " calls", desk.digest(), digest);
+            due("26: twice the same", desk.digest(), digest);
+        }
     }
 
-    private static long digestByLooks(StuntDesk desk, String buffer) {
-        long hash = 3527;
-        for (int what = 0; what <= 10; what++) {
-            hash = 31 * hash + desk.count(what);
-        }
-        for (int person = 0; person < 8; person++) {
-            for (int what = 0; what <= 6; what++) {
-                hash = 31 * hash + desk.person(person, what);
-            }
-            for (int kind = 0; kind < 6; kind++) {
-                hash = 31 * hash + desk.rehearsed(person, kind, 2);
-            }
-            hash = 31 * hash + desk.ifHurt(person, 16);
-        }
-        for (int scene = 0; scene < desk.count(4); scene++) {
-            for (int what = 0; what <= 5; what++) {
-                hash = 31 * hash + desk.sceneOf(scene, what);
-            }
-            hash = 31 * hash + desk.best(scene);
-            for (int person = 0; person < 8; person++) {
-                hash = 31 * hash + desk.refusal(scene, person);
-                hash = 31 * hash + desk.lacking(scene, person);
-                hash = 31 * hash + desk.soonest(scene, person);
-            }
-        }
-        hash = 31 * hash + desk.cost(3, 10);
-        hash = 31 * hash + Double.doubleToLongBits(desk.shotShare());
-        hash = 31 * hash + buffer.length();
-        for (int i = 0; i < buffer.length(); i++) {
-            hash = 31 * hash + buffer.charAt(i);
-        }
-        return hash;
+    private static StuntDesk deskAfter(List<DeskCall> calls) {
+        StuntDesk desk = new StuntDesk();
+        calls.forEach(call -> call.answer(desk));
+        return desk;
     }
 }
